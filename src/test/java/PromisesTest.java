@@ -412,6 +412,15 @@ public final class PromisesTest {
             check.due("6: where the bits end at " + end, x.taken(), want);
             check.due("5: the points stay", x.count(0), 6);
         }
+        // In the last point that is read, where nothing behind it could find the end.
+        ChunkPacker y = secondPoint(1);
+        int end = y.count(1);
+        wrong("nothing of the last point", y, "", 3, end);
+        wrong("no value of the last point", y, "0", 3, end + 1);
+        wrong("half of 1 0", y, "0" + "1", 3, end + 2);
+        wrong("no a", y, "0" + "11" + "0000", 3, end + 3);
+        wrong("no n - 1", y, "0" + "11" + "00000" + "00000", 3, end + 8);
+        wrong("no bits in the frame", y, "0" + "11" + "00000" + "000000", 3, end + 14);
     }
 
     private void unpackWrongArguments() {

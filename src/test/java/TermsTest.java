@@ -161,6 +161,10 @@ public final class TermsTest {
 
     @Sentence(in = "Terms", says = "(all modulo 2 to the number of bits")
     void turn_modulo() {
+        check.due("-1 is written as 2^7 - 1", turnBits(-1), "10" + Rows.binary((1L << 7) - 1, 7));
+        check.due("-100 as 2^10 - 100", turnBits(-100), "110" + Rows.binary((1L << 10) - 100, 10));
+        check.due("-1000 as 2^13 - 1000", turnBits(-1000), "1110" + Rows.binary((1L << 13) - 1000, 13));
+        check.due("-10000 as 2^41 - 10000", turnBits(-10000), "1111" + Rows.binary((1L << 41) - 10000, 41));
         // Behind a step of 10000, so that each turn leaves a step that is right.
         int[] sizes = {7, 10, 13, 41};
         for (int kind = 1; kind <= 4; kind++) {

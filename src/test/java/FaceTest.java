@@ -5,7 +5,7 @@ import java.lang.reflect.Modifier;
 import java.util.Set;
 import java.util.TreeSet;
 
-/** The class has the document's public face, and no other member that is not private. */
+/** The class has the document's public face, and no other member that is not private; what can be seen of rules 1 and 5. */
 public final class FaceTest {
     private static final Set<String> FACE = Set.of(
             "public static final int ChunkPacker.NONE",
@@ -45,7 +45,41 @@ public final class FaceTest {
             check.due(inside.getName() + " is static", Modifier.isStatic(inside.getModifiers()), true);
             check.due(inside.getName() + " is public", Modifier.isPublic(inside.getModifiers()), false);
         }
+        noOtherMethodBearsAFaceName(check);
+        noStaticFieldChanges(check);
         check.end();
+    }
+
+    /** Rule 1 of ../shared/LANGUAGE.md. */
+    private static void noOtherMethodBearsAFaceName(Check check) {
+        Set<String> names = new TreeSet<>();
+        for (Method method : ChunkPacker.class.getDeclaredMethods()) {
+            if (Modifier.isPublic(method.getModifiers()) && !names.add(method.getName())) {
+                check.fault("two public methods are named " + method.getName());
+            }
+        }
+        for (Method method : ChunkPacker.class.getDeclaredMethods()) {
+            if (Modifier.isPrivate(method.getModifiers()) && names.contains(method.getName())) {
+                check.fault("bears the name of a public method: " + method);
+            }
+        }
+        for (Class<?> inside : ChunkPacker.class.getDeclaredClasses()) {
+            for (Method method : inside.getDeclaredMethods()) {
+                if (names.contains(method.getName())) {
+                    check.fault("bears the name of a public method: " + method);
+                }
+            }
+        }
+    }
+
+    /** Rule 5 of ../shared/LANGUAGE.md. */
+    private static void noStaticFieldChanges(Check check) {
+        for (Field field : ChunkPacker.class.getDeclaredFields()) {
+            int modifiers = field.getModifiers();
+            if (Modifier.isStatic(modifiers) && !Modifier.isFinal(modifiers)) {
+                check.fault("a static field that is not final: " + field);
+            }
+        }
     }
 
     private static Set<String> visibleMembers() {
